@@ -378,7 +378,7 @@ public final class LampRacks {
             return size >= MOST_LAMPS;
         }
 
-        /** Each field is set anew: an undone lamp may have left its own there. */
+        /** To be called only if there is room. */
         int append(int itsBatch, int itsSpot, int hours) {
             int lamp = size;
             batch[lamp] = itsBatch;
@@ -410,17 +410,9 @@ public final class LampRacks {
             return (wearLeft + divisor - 1) / divisor;
         }
 
-        /** Lets a lamp that is not dead burn from the end of an hour on; tells whether it ends. */
-        boolean burn(int lamp, int wearOfHour, int hours, int hourBefore) {
-            int left = hoursLeft(lamp, wearOfHour);
-            int burning = Math.min(hours, left);
-            burned[lamp] += burning;
-            wear[lamp] += burning * wearOfHour;
-            if (left > hours) {
-                return false;
-            }
-            end[lamp] = hourBefore + left;
-            return true;
+        void burn(int lamp, int wearOfHour, int hours) {
+            burned[lamp] += hours;
+            wear[lamp] += hours * wearOfHour;
         }
 
         int countOf(int itsBatch) {
@@ -516,12 +508,9 @@ public final class LampRacks {
             return first;
         }
 
+        /** As long as too few lamps are dead, or there are none, no dead one has the rank. */
         int middleLife(int itsBatch) {
-            int all = countOf(itsBatch);
-            if (all == 0 || 2 * countDeadOf(itsBatch) < all) {
-                return NONE;
-            }
-            int rank = (all + 1) / 2 - 1;
+            int rank = (countOf(itsBatch) + 1) / 2 - 1;
             for (int lamp = 0; lamp < size; lamp++) {
                 if (isDeadOf(lamp, itsBatch) && countShorterOf(itsBatch, lamp) == rank) {
                     return hoursCounted(lamp);
@@ -787,7 +776,12 @@ public final class LampRacks {
                 int lamp = racks.lampAt[spot];
                 if (lamp != NO_LAMP && !lamps.isDead(lamp)) {
                     int wear = wearOfHour(racks.volts[rack], isHot(spot));
-                    ends += oneIf(lamps.burn(lamp, wear, hours, hourBefore));
+                    int left = lamps.hoursLeft(lamp, wear);
+                    lamps.burn(lamp, wear, Math.min(left, hours));
+                    if (left <= hours) {
+                        lamps.end[lamp] = hourBefore + left;
+                        ends++;
+                    }
                 }
             }
             return ends;
