@@ -570,7 +570,7 @@ public final class LampRacks {
             if (stepHours[rack] == 0 || voltsAfterStep(rack) == volts[rack]) {
                 return hours;
             }
-            return Math.max(1, Math.min(hours, hoursToStep(rack)));
+            return Math.min(hours, hoursToStep(rack));
         }
 
         /** Counts hours that go no further than to the next change of the volts. */
@@ -759,7 +759,7 @@ public final class LampRacks {
             int ends = 0;
             int stretch = 1;
             for (int passed = 0; passed < hours; passed += stretch) {
-                stretch = racks.hoursAtSameVolts(rack, hours - passed);
+                stretch = Math.max(1, racks.hoursAtSameVolts(rack, hours - passed));
                 ends += burnRack(rack, stretch, hour + passed);
                 racks.countHours(rack, stretch);
             }
@@ -1094,9 +1094,9 @@ public final class LampRacks {
             return true;
         }
 
-        /** Takes digits while they are allowed: one that is not is no better for what follows. */
+        /** From 0 or 1. Takes digits while they are allowed: what follows takes no digit either. */
         private boolean readNumber(int least, int most) {
-            if (!isWithin(current(), '0' + Math.min(least, 1), '9')) {
+            if (!isWithin(current(), '0' + least, '9')) {
                 return false;
             }
             number = current() - '0';

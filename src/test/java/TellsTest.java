@@ -385,6 +385,7 @@ public final class TellsTest {
             few.put(1, lamp, 0);
         }
         Check.due("no weak one yet", few.count(5), 0);
+        Check.due("all burn", few.count(3), 7);
         few.put(1, 7, 0);
         Check.due("the weak one", few.count(5), 1);
     }
