@@ -4,6 +4,7 @@ import java.util.Random;
 public final class RandomRunsTest {
     private static final int RUNS = 400;
     private static final int CALLS = 512;
+    private static final int MOST_CALLS_OF_A_TEST = 64;
 
     private final Random random;
     private final String name;
@@ -73,7 +74,7 @@ public final class RandomRunsTest {
             act(where, random.nextInt(20));
             return 1;
         }
-        if (kind < 53) {
+        if (kind < 53 && call + MOST_CALLS_OF_A_TEST <= CALLS) {
             return performSome(where);
         }
         tell(where, random.nextInt(12));

@@ -145,9 +145,8 @@ public final class TextsTest {
     }
 
     private static void allowedDue(String start, String allowed) {
-        LampRacks racks = new LampRacks();
         for (char sign = 32; sign < 127; sign++) {
-            int answer = Check.performText(racks, start + sign);
+            int answer = Check.performText(new LampRacks(), start + sign);
             boolean taken = answer != -1100 - start.length();
             Check.due("sign " + sign + " behind " + start, taken ? 1 : 0, allowed.indexOf(sign) >= 0 ? 1 : 0);
         }
