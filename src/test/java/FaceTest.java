@@ -13,28 +13,28 @@ import java.util.regex.Pattern;
 
 /** The public face is the document's and no more, and the source keeps to what of LANGUAGE.md can be told by words. */
 public final class FaceTest {
-    private static final String[] FACE = {
-        "int setBatch(int, int, int)", "int put(int, int, int)", "int takeOut(int, int)",
-        "int swap(int, int, int, int)", "int setVolts(int, int)", "int setSteps(int, int, int)", "int set(int, int)",
-        "int pass(int)", "int type(char)", "int clearText()", "int perform()", "int stopped(int)", "int undo()",
-        "int keep()", "int restore()", "int lamp(int, int)", "int rack(int, int)", "int at(int, int)",
-        "int batch(int, int)", "int lasted(int, int)", "int ended(int)", "int lasts(int, int)", "int reason(int)",
-        "int next(int)", "int count(int)",
-        "BAD_VALUE", "FULL", "NONE", "NOT_POSSIBLE", "UNKNOWN", "LampRacks()",
-    };
+    private static final Path DOCUMENT = Path.of("..", "shared", "DOC.md");
+    private static final int METHODS_OF_THE_FACE = 25;
+    private static final int CONSTANTS_OF_THE_FACE = 5;
+    private static final int MOST_CLASSES = 12;
+    private static final int MOST_FIELDS = 20;
+    private static final int MOST_PARAMETERS = 7;
+    private static final Pattern CONSTANT = Pattern.compile("    public static final int (\\w+) = (-?[0-9]+);");
+    private static final Pattern CALL = Pattern.compile("    public (\\w+ )?(\\w+)\\((.*)\\);");
 
     private FaceTest() {
     }
 
-    public static void main(String[] args) throws IOException {
+    public static void main(String[] args) throws IOException, ReflectiveOperationException {
         faceIsThatOfTheDocument();
         noPrivateMethodHasTheNameOfAPublicOne();
         constantsAreThoseOfTheDocument();
+        classesAreFewAndSmall();
         sourceHasNoWordThatTheLanguageRulesOut();
         Check.end();
     }
 
-    private static void faceIsThatOfTheDocument() {
+    private static void faceIsThatOfTheDocument() throws IOException {
         Class<LampRacks> face = LampRacks.class;
         Set<String> found = new TreeSet<>();
         for (Method method : face.getDeclaredMethods()) {
@@ -55,12 +55,29 @@ public final class FaceTest {
         for (Constructor<?> constructor : face.getDeclaredConstructors()) {
             found.add(constructor.getName() + (constructor.getParameterCount() == 0 ? "()" : "(..)"));
         }
-        Set<String> due = new TreeSet<>(Arrays.asList(FACE));
+        Set<String> due = readFace();
+        Check.due("members that the document shows", due.size(), METHODS_OF_THE_FACE + CONSTANTS_OF_THE_FACE + 1);
         if (!found.equals(due)) {
             System.out.println("found " + found + ", due " + due);
         }
         Check.due("face is that of the document", found.equals(due) ? 1 : 0, 1);
         Check.due("class", face.getModifiers(), Modifier.PUBLIC | Modifier.FINAL);
+    }
+
+    /** The members that the document shows: "int put(int, int, int)", "FULL", "LampRacks()". */
+    private static Set<String> readFace() throws IOException {
+        Set<String> face = new TreeSet<>();
+        for (String line : Files.readAllLines(DOCUMENT)) {
+            Matcher constant = CONSTANT.matcher(line);
+            Matcher call = CALL.matcher(line);
+            if (constant.matches()) {
+                face.add(constant.group(1));
+            } else if (call.matches()) {
+                String type = call.group(1) == null ? "" : call.group(1);
+                face.add(type + call.group(2) + "(" + call.group(3).replaceAll(" \\w+(?=,|$)", "") + ")");
+            }
+        }
+        return face;
     }
 
     private static void noPrivateMethodHasTheNameOfAPublicOne() {
@@ -83,12 +100,44 @@ public final class FaceTest {
         }
     }
 
-    private static void constantsAreThoseOfTheDocument() {
+    private static void constantsAreThoseOfTheDocument() throws IOException, ReflectiveOperationException {
+        Matcher constant = CONSTANT.matcher(Files.readString(DOCUMENT));
+        int constants = 0;
+        while (constant.find()) {
+            int value = LampRacks.class.getField(constant.group(1)).getInt(null);
+            Check.due(constant.group(1), value, Integer.parseInt(constant.group(2)));
+            constants++;
+        }
+        Check.due("constants that the document shows", constants, CONSTANTS_OF_THE_FACE);
         Check.due("UNKNOWN", LampRacks.UNKNOWN, -1001);
         Check.due("BAD_VALUE", LampRacks.BAD_VALUE, -1002);
         Check.due("FULL", LampRacks.FULL, -1003);
         Check.due("NOT_POSSIBLE", LampRacks.NOT_POSSIBLE, -1004);
         Check.due("NONE", LampRacks.NONE, -1005);
+    }
+
+    private static void classesAreFewAndSmall() {
+        Class<?>[] inside = LampRacks.class.getDeclaredClasses();
+        Check.due("classes", Math.max(1 + inside.length, MOST_CLASSES), MOST_CLASSES);
+        isSmall(LampRacks.class);
+        for (Class<?> one : inside) {
+            isSmall(one);
+            Check.due("classes inside " + one, one.getDeclaredClasses().length, 0);
+        }
+    }
+
+    private static void isSmall(Class<?> one) {
+        int fields = 0;
+        for (Field field : one.getDeclaredFields()) {
+            boolean constant = Modifier.isStatic(field.getModifiers());
+            fields += constant ? 0 : 1;
+            Check.due(field + " is final, or no constant", !constant || Modifier.isFinal(field.getModifiers()) ? 1 : 0, 1);
+        }
+        Check.due("fields of " + one, Math.max(fields, MOST_FIELDS), MOST_FIELDS);
+        for (Method method : one.getDeclaredMethods()) {
+            int parameters = method.getParameterCount();
+            Check.due("parameters of " + method, Math.max(parameters, MOST_PARAMETERS), MOST_PARAMETERS);
+        }
     }
 
     private static void sourceHasNoWordThatTheLanguageRulesOut() throws IOException {
